@@ -24,8 +24,10 @@ public final class NailRodsPromises {
         keep();
         fogger();
         reckoning();
+        reckoningOfOtherKinds();
         count();
         pass();
+        firesOfOddHeat();
         rate();
         when();
         foresee();
@@ -145,14 +147,21 @@ public final class NailRodsPromises {
         due("left", x.fogger(2, 2), 0);
         due("joined", x.fogger(3, 2), 1);
         due("the same again", x.change(0, 3), 3);
-        x.lend(0, 1);
+        x.lend(0, 2);
         refused(x, STATE, "something owed", () -> x.change(0, 0));
         refused(x, INDEX, "fogger 4, before what is owed", () -> x.change(0, 4));
         refused(x, INDEX, "fogger -1", () -> x.change(0, -1));
         refused(x, INDEX, "nailer 1", () -> x.change(1, 0));
         refused(x, INDEX, "nailer -1", () -> x.change(-1, 0));
         x.pass(48);
-        due("when it is paid", x.change(0, 0), 3);
+        due("a coin is owed", x.told(0, 8), 1);
+        refused(x, STATE, "a single coin owed", () -> x.change(0, 0));
+
+        NailRods y = new NailRods();
+        y.nailer(5, 1, 3);
+        y.lend(0, 1);
+        y.pass(48);
+        due("when it is paid", y.change(0, 0), 3);
     }
 
     private static void told() {
@@ -294,6 +303,43 @@ public final class NailRodsPromises {
         due("the fogger's coins", x.fogger(2, 1), 60 + 3 + 32);
         due("the fogger's gain", x.fogger(2, 5), 8);
         due("loose ones stay", x.nails(0, 0, 0), 214);
+    }
+
+    private static void reckoningOfOtherKinds() {
+        NailRods x = new NailRods();
+        x.nailer(9, 2, 0);
+        x.coal(0, 20);
+        x.lend(0, 20);
+        x.pass(48);
+        dueFogger(x, 0, 20, 60 + 20, 1, 1, 16, 4);
+        due("loose hobs", x.nails(0, 2, 0), 414);
+        due("debt less a bag of hobs", x.told(0, 8), 60 - 16);
+        x.nailer(9, 1, 0);
+        x.coal(1, 20);
+        x.lend(1, 20);
+        x.pass(48);
+        dueFogger(x, 0, 20, 80 + 28, 2, 3, 16 + 22, 4 + 6);
+        due("loose clouts", x.nails(1, 1, 0), 107);
+        due("debt less two bags of clouts", x.told(1, 8), 60 - 22);
+        due("nothing comes twice", x.pass(48), 0);
+        dueFogger(x, 0, 20, 80 + 28, 2, 3, 16 + 22, 4 + 6);
+        due("in the warehouse", x.count(6), 3);
+    }
+
+    private static void firesOfOddHeat() {
+        NailRods x = new NailRods();
+        x.nailer(9, 0, 0);
+        x.lend(0, 20);
+        x.lend(0, 10);
+        x.pass(12);
+        due("cooled", x.told(0, 5), 3);
+        x.coal(0, 3);
+        int burnt = x.told(0, 10);
+        due("at 5", x.pass(1), 90);
+        due("at 7", x.pass(1), 126);
+        due("nothing is burnt at 7", x.told(0, 10), burnt);
+        due("at 9", x.pass(1), 146);
+        due("16 are burnt at 9", x.told(0, 10), burnt + 16);
     }
 
     private static void duePaid(int part, int price) {
@@ -469,6 +515,14 @@ public final class NailRodsPromises {
         y.lend(0, 1);
         due("60 tacks or 15 spikes", y.advise(0, 3), 3);
         due("all of a rod: more than 216 tacks, at most 40 spikes", y.advise(0, 120), 0);
+
+        NailRods z = new NailRods();
+        z.nailer(2, 0, 0);
+        z.coal(0, 20);
+        z.lend(0, 1);
+        z.pass(5);
+        due("132 ounces for two hours and more", z.told(0, 4), 132);
+        due("99 tacks at 8 or 22 spikes at 36: the smallest", z.advise(0, 3), 0);
     }
 
     private static void richest() {
