@@ -34,7 +34,7 @@ public final class NailRodsFace {
         Set<String> missing = new TreeSet<>(Arrays.asList(FACE));
         Set<String> names = new TreeSet<>();
         for (Method m : NailRods.class.getDeclaredMethods()) {
-            if (Modifier.isPrivate(m.getModifiers())) {
+            if (Modifier.isPrivate(m.getModifiers()) || m.isSynthetic()) {
                 continue;
             }
             names.add(m.getName());
@@ -43,6 +43,7 @@ public final class NailRodsFace {
             }
         }
         missing.forEach(m -> wrong.add("missing: " + m));
+        lookForOpenFields(wrong);
         lookAt(NailRods.class, names, wrong);
         for (Class<?> inside : NailRods.class.getDeclaredClasses()) {
             lookAt(inside, names, wrong);
@@ -75,12 +76,18 @@ public final class NailRodsFace {
         return text.toString();
     }
 
-    private static void lookAt(Class<?> type, Set<String> names, Set<String> wrong) {
-        for (Field f : type.getDeclaredFields()) {
-            if (!Modifier.isPrivate(f.getModifiers())) {
+    /** LANGUAGE.md, rule 1: of the classes inside the members may be seen, of the class of the face only the face. */
+    private static void lookForOpenFields(Set<String> wrong) {
+        for (Field f : NailRods.class.getDeclaredFields()) {
+            if (!Modifier.isPrivate(f.getModifiers()) && !f.isSynthetic()) {
                 wrong.add("not private: " + f);
             }
-            if (Modifier.isStatic(f.getModifiers()) && !Modifier.isFinal(f.getModifiers())) {
+        }
+    }
+
+    private static void lookAt(Class<?> type, Set<String> names, Set<String> wrong) {
+        for (Field f : type.getDeclaredFields()) {
+            if (Modifier.isStatic(f.getModifiers()) && !Modifier.isFinal(f.getModifiers()) && !f.isSynthetic()) {
                 wrong.add("static and not final: " + f);
             }
         }
