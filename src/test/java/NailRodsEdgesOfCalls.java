@@ -821,11 +821,13 @@ public final class NailRodsEdgesOfCalls {
             dueDigest(new NailRods(), new long[11], foggers);
         });
         edge("19: which wraps around as a 64-bit integer", () -> {
-            BigInteger d = BigInteger.valueOf(1259);
-            for (int i = 0; i < 35; i++) {
-                d = d.multiply(BigInteger.valueOf(31));
+            BigInteger d = BigInteger.valueOf(1259).multiply(BigInteger.valueOf(31).pow(11 + 24));
+            for (int f = 0; f < 4; f++) {
+                BigInteger keptBackAndCoins = BigInteger.valueOf(20 * 31 + 60);
+                d = d.add(keptBackAndCoins.multiply(BigInteger.valueOf(31).pow(6 * (3 - f) + 4)));
             }
-            due("more than 64 bits", d.bitLength() > 64 ? 1 : 0, 1);
+            due("d would need more than 64 bits", d.bitLength() > 64 ? 1 : 0, 1);
+            due("digest", new NailRods().digest(), d.longValue());
         });
         edge("19: in its order: one nailer", () -> {
             NailRods x = new NailRods();
