@@ -35,6 +35,7 @@ public final class NailRodsPromises {
         richest();
         mean();
         digest();
+        exampleOfReadme();
         System.out.println(wrong == 0 ? "all promises hold" : wrong + " answers are wrong");
         if (wrong != 0) {
             System.exit(1);
@@ -613,6 +614,27 @@ public final class NailRodsPromises {
         }
         due("digest", x.digest(), d);
         due("again", x.digest(), d);
+    }
+
+    private static void exampleOfReadme() {
+        promise = "of README.md";
+        NailRods trade = new NailRods();
+        int smith = trade.nailer(9, 0, 2);
+        due("nailer(9, 0, 2)", smith, 0);
+        due("lend(smith, 20)", trade.lend(smith, 20), 60);
+        due("coal(smith, 20)", trade.coal(smith, 20), 30);
+        due("rate(smith)", trade.rate(smith), 0);
+        due("when(smith, 1000)", trade.when(smith, 1000), 9);
+        due("advise(smith, 10)", trade.advise(smith, 10), 3);
+        due("foresee(48, 8)", trade.foresee(48, 8), 36);
+        due("pass(48)", trade.pass(48), 4214);
+        due("count(6)", trade.count(6), 4);
+        due("nails(smith, 0, 0)", trade.nails(smith, 0, 0), 214);
+        due("told(smith, 8)", trade.told(smith, 8), 36);
+        due("fogger(2, 5)", trade.fogger(2, 5), 8);
+        due("keep(2, 10)", trade.keep(2, 10), 20);
+        due("make(smith, 3)", trade.make(smith, 3), 0);
+        refused(trade, STATE, "change(smith, 1)", () -> trade.change(smith, 1));
     }
 
     private static void dueTold(NailRods x, int nailer, int... wanted) {
